@@ -1,0 +1,194 @@
+/** Promises 23 to 25: undo(), save() and restore(). */
+public final class UndoAndSavingTest {
+    private static final int BAD_VALUE = -2, NOT_POSSIBLE = -5, NONE = -6;
+    private static final int[] OUT = {-1, 2, Integer.MIN_VALUE, Integer.MAX_VALUE};
+    private static final Checks CHECKS = new Checks("UndoAndSavingTest");
+
+    private UndoAndSavingTest() {
+    }
+
+    public static void main(String[] arguments) {
+        promise23EachChange();
+        promise23SixStates();
+        promise23WhatIsNoChange();
+        promise23PadAndSlotsStay();
+        promise24Save();
+        promise25Restore();
+        promise25Undone();
+        CHECKS.end();
+    }
+
+    private static void due(String call, long got, long want) {
+        CHECKS.due(call, got, want);
+    }
+
+    private static VillageCinema someShows() {
+        VillageCinema x = new VillageCinema();
+        x.film(0, 300, 100, 50, 0);
+        x.film(1, 200, 50, 60, 5);
+        x.show(0, 3, 1);
+        x.show(1, 9, 0);
+        x.let(12, 77);
+        return x;
+    }
+
+    /** Undoes the change just made, and looks whether everything is as it was. */
+    private static void undoes(String change, VillageCinema x, String before, int history) {
+        due(change + " is one change", x.count(14), history + 1);
+        due("undo of " + change, x.undo(), history);
+        CHECKS.isTrue(change + " is undone", before.equals(Checks.stateOf(x)));
+    }
+
+    private static void promise23EachChange() {
+        VillageCinema x = someShows();
+        x.undo();
+        x.undo();
+        String before = Checks.stateOf(x);
+        for (int setting = 0; setting < 5; setting++) {
+            x.set(setting, 10);
+            undoes("set", x, before, 3);
+        }
+        x.set(VillageCinema.SEATS, 80);
+        undoes("set to the same", x, before, 3);
+        x.film(2, 999, 500, 90, 34);
+        undoes("film", x, before, 3);
+        x.show(1, 34, 1);
+        undoes("show", x, before, 3);
+        x.show(0, 3, 1);
+        undoes("the same show", x, before, 3);
+        x.drop(3, 1);
+        undoes("drop", x, before, 3);
+        x.exchange(3, 1, 20, 0);
+        undoes("exchange", x, before, 3);
+        x.exchange(3, 1, 3, 1);
+        undoes("exchange with itself", x, before, 3);
+        x.let(3, 500);
+        undoes("let", x, before, 3);
+        x.let(3, 0);
+        undoes("let with 0", x, before, 3);
+        Checks.putText(x, "0a0,0a1,1e34");
+        x.carryOut();
+        undoes("carryOut", x, before, 3);
+        Checks.putText(x, "7a0");
+        x.carryOut();
+        undoes("carryOut of none", x, before, 3);
+    }
+
+    private static void promise23SixStates() {
+        VillageCinema x = new VillageCinema();
+        due("none", x.undo(), NOT_POSSIBLE);
+        for (int price = 7; price <= 20; price++) {
+            x.set(VillageCinema.PRICE, price);
+            due("at most six", x.count(14), Math.min(6, price - 6));
+        }
+        for (int left = 5; left >= 0; left--) {
+            due("undo", x.undo(), left);
+            due("the price before", x.count(9), 14 + left);
+        }
+        due("not further", x.undo(), NOT_POSSIBLE);
+        due("the oldest one kept", x.count(9), 14);
+        x.set(VillageCinema.PRICE, 1);
+        x.set(VillageCinema.PRICE, 2);
+        due("undo", x.undo(), 1);
+        x.set(VillageCinema.PRICE, 3);
+        due("undo", x.undo(), 1);
+        due("1 again", x.count(9), 1);
+        due("undo", x.undo(), 0);
+        due("14 again", x.count(9), 14);
+    }
+
+    private static void promise23WhatIsNoChange() {
+        VillageCinema x = someShows();
+        x.undo();
+        x.put(Checks.packed("0a1"));
+        x.fault();
+        x.wipe();
+        x.save(0);
+        x.set(0, 9);
+        x.film(0, 0, 0, 0, 0);
+        x.show(0, 35, 0);
+        x.drop(0, 0);
+        x.exchange(9, 0, 4, 0);
+        x.let(35, 0);
+        x.carryOut();
+        x.restore(1);
+        x.undo();
+        due("two undone, and nothing else recorded", x.count(14), 3);
+    }
+
+    private static void promise23PadAndSlotsStay() {
+        VillageCinema x = someShows();
+        x.put(Checks.packed("0a1,0e2"));
+        x.save(1);
+        x.undo();
+        due("the pad stays", x.count(13), 7);
+        due("not let", x.rent(12), 0);
+        due("the slot stays", x.restore(1), 2);
+        due("let again", x.rent(12), 77);
+        x.undo();
+        due("undone", x.rent(12), 0);
+        due("the slot stays still", x.restore(1), 2);
+        due("let once more", x.rent(12), 77);
+    }
+
+    private static void promise24Save() {
+        VillageCinema x = someShows();
+        for (int out : OUT) {
+            due("slot " + out, x.save(out), BAD_VALUE);
+        }
+        due("still nothing in a slot", x.restore(0), NOT_POSSIBLE);
+        String before = Checks.stateOf(x);
+        due("two shows", x.save(0), 2);
+        CHECKS.isTrue("save changes nothing", before.equals(Checks.stateOf(x)));
+        due("nor is it recorded", x.undo(), 4);
+        x.drop(9, 0);
+        due("one show", x.save(1), 1);
+        x.drop(3, 1);
+        due("overwritten", x.save(1), 0);
+        due("restored", x.restore(1), 0);
+        due("the other slot", x.restore(0), 2);
+        CHECKS.isTrue("everything", before.equals(Checks.stateOf(x)));
+    }
+
+    private static void promise25Restore() {
+        VillageCinema x = someShows();
+        for (int out : OUT) {
+            due("slot " + out, x.restore(out), BAD_VALUE);
+        }
+        due("nothing is saved", x.restore(1), NOT_POSSIBLE);
+        x.save(1);
+        due("nothing in the other one", x.restore(0), NOT_POSSIBLE);
+        due("nothing is recorded", x.count(14), 5);
+        String saved = Checks.stateOf(x);
+        for (int round = 0; round < 2; round++) {
+            x.set(round, 15);
+            x.set(2 + round, 15);
+            x.film(0, 5, 5, 25, 5);
+            x.let(3, 9);
+            x.show(1, 30 + round, 1);
+            x.put(48);
+            due("two shows", x.restore(1), 2);
+            CHECKS.isTrue("everything is as it was saved", saved.equals(Checks.stateOf(x)));
+            due("but not the pad", x.count(13), round + 1);
+            due("nor the history", x.count(14), 6);
+        }
+        due("film 2 is gone", x.of(2, 0), -1);
+        due("its number comes again", x.film(3, 9, 9, 29, 9), 2);
+        due("with what it is now", x.of(2, 1), 9);
+    }
+
+    private static void promise25Undone() {
+        VillageCinema x = new VillageCinema();
+        x.save(0);
+        x.film(0, 300, 100, 50, 0);
+        x.show(0, 3, 1);
+        String before = Checks.stateOf(x);
+        due("an empty hall", x.restore(0), 0);
+        due("no films", x.count(0), 0);
+        due("no show", x.at(3, 1, 0), NONE);
+        undoes("restore", x, before, 2);
+        x.restore(0);
+        x.restore(0);
+        undoes("restore of the same", x, Checks.stateOf(x), 3);
+    }
+}
