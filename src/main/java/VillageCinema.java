@@ -26,7 +26,7 @@ public final class VillageCinema {
     private static final int NO_ERROR = 0;
 
     private final Hall hall = new Hall();
-    private final FilmRun run = new FilmRun(hall);
+    private final FilmRun run = new FilmRun();
     private final Pad pad = new Pad();
     private final History history = new History();
     private final int[][] slots = new int[SLOTS][Hall.LENGTH];
@@ -129,7 +129,7 @@ public final class VillageCinema {
         if (!hall.hasFilm(film)) {
             return what == 1 || what == 2 ? 0 : NONE;
         }
-        run.follow(film);
+        run.follow(hall, film);
         switch (what) {
             case 0:
                 return film;
@@ -155,7 +155,7 @@ public final class VillageCinema {
         if (what == 10) {
             return hall.firstDayShown(film);
         }
-        run.follow(film);
+        run.follow(hall, film);
         return what == 9 ? run.leftAtEnd() : run.sum(what - FACTS);
     }
 
@@ -166,7 +166,7 @@ public final class VillageCinema {
         if (!isWeek(week) || !isWithin(what, 0, 3)) {
             return BAD_VALUE;
         }
-        run.follow(film);
+        run.follow(hall, film);
         switch (what) {
             case 0:
                 return run.sumOfWeek(week, TAKINGS);
@@ -304,7 +304,7 @@ public final class VillageCinema {
         if (!hall.hasFilm(film)) {
             return NOT_POSSIBLE;
         }
-        run.follow(film);
+        run.follow(hall, film);
         for (int price = LEAST_SETTING[PRICE]; price <= MOST_SETTING[PRICE]; price++) {
             if (run.peopleAt(place) * price >= takings) {
                 return price;
@@ -422,7 +422,7 @@ public final class VillageCinema {
     }
 
     private int sumOfFilm(int film, int what) {
-        run.follow(film);
+        run.follow(hall, film);
         return run.sum(what);
     }
 
@@ -437,7 +437,7 @@ public final class VillageCinema {
     private int sumOfFilmsInWeek(int week, int what) {
         int sum = 0;
         for (int film = 0; film < hall.films(); film++) {
-            run.follow(film);
+            run.follow(hall, film);
             sum += run.sumOfWeek(week, what);
         }
         return sum;
@@ -446,14 +446,18 @@ public final class VillageCinema {
     private int fullShows() {
         int sum = 0;
         for (int film = 0; film < hall.films(); film++) {
-            run.follow(film);
+            run.follow(hall, film);
             sum += run.fullShows();
         }
         return sum;
     }
 
     private int leftOfFilm(int film) {
-        return hall.hasFilm(film) ? sumOfFilm(film, LEFT) : 0;
+        if (!hall.hasFilm(film)) {
+            return 0;
+        }
+        run.follow(hall, film);
+        return run.sum(LEFT);
     }
 
     /**
@@ -586,7 +590,6 @@ public final class VillageCinema {
 
     /** One film's way through its shows: follow() finds it, and the others tell of the film followed last. */
     private static final class FilmRun {
-        private final Hall hall;
         // Only the places with a show of the film followed last hold numbers of it.
         private final int[] peopleAt = new int[PLACES];
         private final int[] leftBehind = new int[PLACES];
@@ -595,11 +598,7 @@ public final class VillageCinema {
         private int fullShows;
         private int leftAtEnd;
 
-        FilmRun(Hall hall) {
-            this.hall = hall;
-        }
-
-        void follow(int film) {
+        void follow(Hall hall, int film) {
             int left = hall.fact(film, CROWD);
             int firstWeek = hall.fact(film, FIRST_DAY) / DAYS_A_WEEK;
             int share = NONE;
@@ -608,22 +607,22 @@ public final class VillageCinema {
                 if (week > firstWeek) {
                     left -= left / 4;
                 }
-                left = followWeek(film, week, left);
+                left = followWeek(hall, film, week, left);
                 share = nextShare(share, hall.fact(film, SHARE), sumOfWeek(week, SHOWS) > 0);
                 shares[week] = share;
-                reckonWeek(week, hall.fact(film, MINIMUM));
+                reckonWeek(hall, week, hall.fact(film, MINIMUM));
             }
             leftAtEnd = left;
         }
 
         /** Finds the people of a film's shows in a week; answers how many are left behind it. */
-        private int followWeek(int film, int week, int leftAtFirst) {
+        private int followWeek(Hall hall, int film, int week, int leftAtFirst) {
             int left = leftAtFirst;
             int shows = 0;
             int end = (week + 1) * PLACES_A_WEEK;
             for (int place = week * PLACES_A_WEEK; place < end; place++) {
                 if (hall.showAt(place) == film) {
-                    int people = peopleOf(left, place % PARTS);
+                    int people = peopleOf(hall, left, place % PARTS);
                     left -= people;
                     peopleAt[place] = people;
                     leftBehind[place] = left;
@@ -638,7 +637,7 @@ public final class VillageCinema {
             return left;
         }
 
-        private int peopleOf(int left, int part) {
+        private static int peopleOf(Hall hall, int left, int part) {
             int hundredths = hall.setting(part == 0 ? AFTERNOON : EVENING);
             return Math.min(left * hundredths / 100, hall.setting(SEATS));
         }
@@ -650,7 +649,7 @@ public final class VillageCinema {
             return shown ? firstShare : NONE;
         }
 
-        private void reckonWeek(int week, int minimum) {
+        private void reckonWeek(Hall hall, int week, int minimum) {
             int shows = sumOfWeek(week, SHOWS);
             int takings = sumOfWeek(week, PEOPLE) * hall.setting(PRICE);
             sums[week * SUMS + TAKINGS] = takings;

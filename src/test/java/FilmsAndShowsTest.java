@@ -236,19 +236,22 @@ public final class FilmsAndShowsTest {
         x.show(0, 5, 0);
         x.show(0, 5, 1);
         x.show(0, 6, 0);
+        x.show(0, 4, 1);
         for (int out : OUT) {
             due("day", x.let(out, 1), BAD_VALUE);
             due("rent", x.let(0, out), BAD_VALUE);
         }
         due("day 35", x.let(35, 1), BAD_VALUE);
         due("rent 1000", x.let(5, 1000), BAD_VALUE);
-        due("nothing recorded", x.count(14), 4);
+        due("nothing recorded", x.count(14), 5);
         due("not let any more, though it was not", x.let(5, 0), 0);
-        due("recorded", x.count(14), 5);
-        due("no show is dropped", x.count(1), 3);
+        due("recorded", x.count(14), 6);
+        due("no show is dropped", x.count(1), 4);
         due("two shows", x.let(5, 999), 2);
         due("its rent", x.rent(5), 999);
-        due("one show is left", x.count(1), 1);
+        due("two shows are left", x.count(1), 2);
+        due("the evening before", x.at(4, 1, 0), 0);
+        due("it is dropped", x.drop(4, 1), 0);
         due("none in the evening", x.at(5, 1, 0), NONE);
         due("one show", x.let(6, 1), 1);
         due("a new rent", x.let(5, 20), 0);

@@ -159,6 +159,13 @@ public final class TellingTest {
         due("the first day with a show", x.of(0, 10), 2);
         x.show(0, 1, 0);
         due("in the afternoon too", x.of(0, 10), 1);
+        x.drop(13, 1);
+        x.let(0, 1);
+        due("no show, and a rent of 1", x.of(1, 10), NONE);
+        x.let(0, 0);
+        x.film(0, 100, 0, 50, 0);
+        x.show(2, 0, 0);
+        due("in the first place", x.of(2, 10), 0);
     }
 
     private static void promise11InWeek() {
@@ -249,6 +256,10 @@ public final class TellingTest {
         due("rent(1)", x.rent(1), 0);
         due("rent(34)", x.rent(34), 999);
         due("rent(35)", x.rent(35), BAD_VALUE);
+        due("the rents of the first and the last day", x.count(6), 1000);
+        due("what is left of them", x.count(5), 1001000);
+        due("of the first week", x.week(0, 4), 1000001);
+        due("of the last week", x.week(4, 4), 1000999);
         for (int out : OUT) {
             due("rent", x.rent(out), BAD_VALUE);
         }

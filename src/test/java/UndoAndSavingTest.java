@@ -141,6 +141,11 @@ public final class UndoAndSavingTest {
         due("two shows", x.save(0), 2);
         CHECKS.isTrue("save changes nothing", before.equals(Checks.stateOf(x)));
         due("nor is it recorded", x.undo(), 4);
+        x.show(0, 0, 0);
+        x.show(0, 34, 1);
+        due("the first and the last place count", x.save(1), 4);
+        x.drop(0, 0);
+        x.drop(34, 1);
         x.drop(9, 0);
         due("one show", x.save(1), 1);
         x.drop(3, 1);

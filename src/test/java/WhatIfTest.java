@@ -79,6 +79,13 @@ public final class WhatIfTest {
         poor.film(0, 1, 300, 20, 0);
         due("the least loss", poor.bestFilm(0, 0, 0), 1);
         due("a loss", poor.bestFilm(0, 0, 1), 1000000 - 330);
+        poor.film(0, 1, 300, 20, 1);
+        due("not the one that can't be shown yet", poor.bestFilm(0, 0, 0), 1);
+        VillageCinema rich = new VillageCinema();
+        rich.film(0, 200, 0, 20, 0);
+        rich.film(0, 100, 0, 20, 0);
+        due("the first film", rich.bestFilm(0, 1, 0), 0);
+        due("its gain", rich.bestFilm(0, 1, 1), 1000000 + 480 - 96 - 30);
     }
 
     private static void promise17BestFilmRefused() {
@@ -131,6 +138,13 @@ public final class WhatIfTest {
     }
 
     private static void promise18OfSeveralTheFirst() {
+        VillageCinema poor = new VillageCinema();
+        poor.film(0, 1, 0, 20, 0);
+        poor.show(0, 0, 0);
+        poor.show(0, 0, 1);
+        dueWorst(poor, 0, 0, 1000030);
+        poor.drop(0, 0);
+        dueWorst(poor, 0, 1, 1000030);
         VillageCinema x = new VillageCinema();
         x.film(0, 100, 0, 50, 0);
         x.film(1, 100, 0, 50, 0);
