@@ -406,17 +406,18 @@ public final class VillageCinema {
     private int putInShowsOfPad() {
         int done = 0;
         int from = 0;
-        while (from < pad.length()) {
-            int end = pad.endOfShow(from);
-            int film = pad.filmAt(from);
-            int part = pad.partAt(from + 1);
-            int day = pad.dayAt(from + 2, end);
-            if (errorOfShow(film, day, part) != NO_ERROR) {
-                break;
+        for (int end = 0; end <= pad.length(); end++) {
+            if (pad.isEndOfShow(end)) {
+                int film = pad.filmAt(from);
+                int part = pad.partAt(from + 1);
+                int day = pad.dayAt(from + 2, end);
+                if (errorOfShow(film, day, part) != NO_ERROR) {
+                    return done;
+                }
+                hall.replaceShow(placeOf(day, part), film);
+                done++;
+                from = end + 1;
             }
-            hall.replaceShow(placeOf(day, part), film);
-            done++;
-            from = end + 1;
         }
         return done;
     }
@@ -795,16 +796,13 @@ public final class VillageCinema {
             return character >= first && character <= last;
         }
 
+        /** The character at an index; the end of the text ends a show as a comma does. */
         private char characterAt(int index) {
             return index >= 0 && index < length ? text[index] : ',';
         }
 
-        int endOfShow(int from) {
-            int end = from;
-            while (end < length && characterAt(end) != ',') {
-                end++;
-            }
-            return end;
+        boolean isEndOfShow(int index) {
+            return characterAt(index) == ',';
         }
 
         int filmAt(int index) {

@@ -1,6 +1,10 @@
+import java.util.BitSet;
+
 /** What the tests share: they tell what is due, and the program ends with exit code 1 if something else came. */
 final class Checks {
     private final String title;
+    private final BitSet promises = new BitSet();
+    private String sentence = "";
     private int right = 0;
     private int wrong = 0;
 
@@ -14,11 +18,28 @@ final class Checks {
             return;
         }
         wrong++;
-        System.out.println(title + ": " + call + " answered " + got + ", due is " + want);
+        System.out.println(title + ": " + sentence + call + " answered " + got + ", due is " + want);
     }
 
     void isTrue(String what, boolean holds) {
         due(what, holds ? 1 : 0, 1);
+    }
+
+    /** The test of one sentence of the document; what it finds wrong is told with the promise and the sentence. */
+    void sentence(int promise, String words, Runnable test) {
+        sentence = "promise " + promise + ", \"" + words + "\": ";
+        promises.set(promise);
+        int before = right + wrong;
+        test.run();
+        isTrue("something is looked at", right + wrong > before);
+        sentence = "";
+    }
+
+    /** Each promise up to the last one has a sentence with a test. */
+    void everyPromise(int last) {
+        for (int promise = 1; promise <= last; promise++) {
+            isTrue("promise " + promise + " has a test", promises.get(promise));
+        }
     }
 
     void end() {
@@ -46,7 +67,10 @@ final class Checks {
         return answer;
     }
 
-    /** Everything that the methods which change nothing tell, but for the pad and the history. */
+    /**
+     * Everything that the methods which change nothing tell, but for the pad and the history. That takes 456
+     * of the 512 calls of an object: it is asked of an object only once.
+     */
     static String stateOf(VillageCinema cinema) {
         StringBuilder all = new StringBuilder();
         for (int what = 0; what <= 12; what++) {

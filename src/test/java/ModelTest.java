@@ -59,7 +59,7 @@ public final class ModelTest {
     }
 
     private int film() {
-        int films = cinema.count(0);
+        int films = plain.count(0);
         return draw(0, 12) == 0 ? odd(0, 7) : odd(0, Math.max(0, films - 1));
     }
 
@@ -152,6 +152,6 @@ public final class ModelTest {
         if (draw(0, 3) == 0) {
             show = show.substring(0, draw(1, show.length()));
         }
-        return cinema.count(13) > 0 && draw(0, 9) > 0 ? "," + show : show;
+        return plain.count(13) > 0 && draw(0, 9) > 0 ? "," + show : show;
     }
 }

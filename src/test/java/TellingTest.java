@@ -288,7 +288,7 @@ public final class TellingTest {
 
     private static void nothingChanges() {
         VillageCinema x = twoFilms();
-        String before = Checks.stateOf(x);
+        String before = Checks.stateOf(twoFilms());
         x.ifShown(1, 7, 0);
         x.bestFilm(8, 0, 1);
         x.worstShow(2);

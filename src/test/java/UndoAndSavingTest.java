@@ -1,3 +1,5 @@
+import java.util.function.Consumer;
+
 /** Promises 23 to 25: undo(), save() and restore(). */
 public final class UndoAndSavingTest {
     private static final int BAD_VALUE = -2, NOT_POSSIBLE = -5, NONE = -6;
@@ -32,46 +34,42 @@ public final class UndoAndSavingTest {
         return x;
     }
 
-    /** Undoes the change just made, and looks whether everything is as it was. */
-    private static void undoes(String change, VillageCinema x, String before, int history) {
-        due(change + " is one change", x.count(14), history + 1);
-        due("undo of " + change, x.undo(), history);
-        CHECKS.isTrue(change + " is undone", before.equals(Checks.stateOf(x)));
+    /** Makes a change and undoes it, and looks whether everything is as it was. */
+    private static void undoes(String change, Consumer<VillageCinema> made) {
+        VillageCinema x = someShows();
+        x.undo();
+        due("two undone", x.undo(), 3);
+        String before = Checks.stateOf(x);
+        VillageCinema y = someShows();
+        y.undo();
+        y.undo();
+        made.accept(y);
+        due(change + " is one change", y.count(14), 4);
+        due("undo of " + change, y.undo(), 3);
+        CHECKS.isTrue(change + " is undone", before.equals(Checks.stateOf(y)));
+    }
+
+    private static void carryOut(VillageCinema x, String text) {
+        Checks.putText(x, text);
+        x.carryOut();
     }
 
     private static void promise23EachChange() {
-        VillageCinema x = someShows();
-        x.undo();
-        x.undo();
-        String before = Checks.stateOf(x);
-        for (int setting = 0; setting < 5; setting++) {
-            x.set(setting, 10);
-            undoes("set", x, before, 3);
+        for (int i = 0; i < 5; i++) {
+            int setting = i;
+            undoes("set", x -> x.set(setting, 10));
         }
-        x.set(VillageCinema.SEATS, 80);
-        undoes("set to the same", x, before, 3);
-        x.film(2, 999, 500, 90, 34);
-        undoes("film", x, before, 3);
-        x.show(1, 34, 1);
-        undoes("show", x, before, 3);
-        x.show(0, 3, 1);
-        undoes("the same show", x, before, 3);
-        x.drop(3, 1);
-        undoes("drop", x, before, 3);
-        x.exchange(3, 1, 20, 0);
-        undoes("exchange", x, before, 3);
-        x.exchange(3, 1, 3, 1);
-        undoes("exchange with itself", x, before, 3);
-        x.let(3, 500);
-        undoes("let", x, before, 3);
-        x.let(3, 0);
-        undoes("let with 0", x, before, 3);
-        Checks.putText(x, "0a0,0a1,1e34");
-        x.carryOut();
-        undoes("carryOut", x, before, 3);
-        Checks.putText(x, "7a0");
-        x.carryOut();
-        undoes("carryOut of none", x, before, 3);
+        undoes("set to the same", x -> x.set(VillageCinema.SEATS, 80));
+        undoes("film", x -> x.film(2, 999, 500, 90, 34));
+        undoes("show", x -> x.show(1, 34, 1));
+        undoes("the same show", x -> x.show(0, 3, 1));
+        undoes("drop", x -> x.drop(3, 1));
+        undoes("exchange", x -> x.exchange(3, 1, 20, 0));
+        undoes("exchange with itself", x -> x.exchange(3, 1, 3, 1));
+        undoes("let", x -> x.let(3, 500));
+        undoes("let with 0", x -> x.let(3, 0));
+        undoes("carryOut", x -> carryOut(x, "0a0,0a1,1e34"));
+        undoes("carryOut of none", x -> carryOut(x, "7a0"));
     }
 
     private static void promise23SixStates() {
@@ -137,9 +135,11 @@ public final class UndoAndSavingTest {
             due("slot " + out, x.save(out), BAD_VALUE);
         }
         due("still nothing in a slot", x.restore(0), NOT_POSSIBLE);
-        String before = Checks.stateOf(x);
+        String before = Checks.stateOf(someShows());
         due("two shows", x.save(0), 2);
-        CHECKS.isTrue("save changes nothing", before.equals(Checks.stateOf(x)));
+        VillageCinema y = someShows();
+        y.save(0);
+        CHECKS.isTrue("save changes nothing", before.equals(Checks.stateOf(y)));
         due("nor is it recorded", x.undo(), 4);
         x.show(0, 0, 0);
         x.show(0, 34, 1);
@@ -164,8 +164,15 @@ public final class UndoAndSavingTest {
         x.save(1);
         due("nothing in the other one", x.restore(0), NOT_POSSIBLE);
         due("nothing is recorded", x.count(14), 5);
-        String saved = Checks.stateOf(x);
-        for (int round = 0; round < 2; round++) {
+        for (int rounds = 1; rounds <= 2; rounds++) {
+            changedAndRestored(rounds);
+        }
+    }
+
+    private static void changedAndRestored(int rounds) {
+        VillageCinema x = someShows();
+        x.save(1);
+        for (int round = 0; round < rounds; round++) {
             x.set(round, 15);
             x.set(2 + round, 15);
             x.film(0, 5, 5, 25, 5);
@@ -173,10 +180,11 @@ public final class UndoAndSavingTest {
             x.show(1, 30 + round, 1);
             x.put(48);
             due("two shows", x.restore(1), 2);
-            CHECKS.isTrue("everything is as it was saved", saved.equals(Checks.stateOf(x)));
             due("but not the pad", x.count(13), round + 1);
             due("nor the history", x.count(14), 6);
         }
+        String saved = Checks.stateOf(someShows());
+        CHECKS.isTrue("everything is as it was saved", saved.equals(Checks.stateOf(x)));
         due("film 2 is gone", x.of(2, 0), -1);
         due("its number comes again", x.film(3, 9, 9, 29, 9), 2);
         due("with what it is now", x.of(2, 1), 9);
@@ -187,13 +195,17 @@ public final class UndoAndSavingTest {
         x.save(0);
         x.film(0, 300, 100, 50, 0);
         x.show(0, 3, 1);
-        String before = Checks.stateOf(x);
         due("an empty hall", x.restore(0), 0);
         due("no films", x.count(0), 0);
         due("no show", x.at(3, 1, 0), NONE);
-        undoes("restore", x, before, 2);
+        due("it is one change", x.count(14), 3);
+        due("which is undone", x.undo(), 2);
+        due("the film is there", x.of(0, 1), 300);
+        due("the show is there", x.at(3, 1, 0), 0);
         x.restore(0);
         x.restore(0);
-        undoes("restore of the same", x, Checks.stateOf(x), 3);
+        due("a second restore of the same", x.count(14), 4);
+        due("is undone, too", x.undo(), 3);
+        due("still no films", x.count(0), 0);
     }
 }
