@@ -55,6 +55,7 @@ final class BoundariesOfTelling extends Boundaries {
         sentence(11, "divided by 100, rounded down", this::dueRoundedDown);
         sentence(11, "the takings of the film in this week, together", this::dueOfWeekTogether);
         sentence(11, "in the first week in which it has a show its share", this::shareInFirstWeek);
+        sentence(11, "a show to which nobody comes is a show, too", this::shareIfNobodyComes);
         sentence(11, "in each later week 10 less, but at least 20", this::shareFalls);
         sentence(11, "whether it has shows in those between or not", this::shareFallsWithoutShows);
         sentence(12, "less COST for each show, 0 to 200", this::costOfEachShow);
@@ -286,6 +287,18 @@ final class BoundariesOfTelling extends Boundaries {
                 due("a show on day " + day + ", week " + week, x.inWeek(0, week, 1), want);
             }
         }
+    }
+
+    private void shareIfNobodyComes() {
+        VillageCinema x = hall(1);
+        x.show(0, 7, 0);
+        due("nobody", x.at(7, 0, 1), 0);
+        int[] want = {NONE, 50, 40, 30, 20};
+        for (int week = 0; week < 5; week++) {
+            due("inWeek(0, " + week + ", 1)", x.inWeek(0, week, 1), want[week]);
+        }
+        x.drop(7, 0);
+        due("dropped", x.inWeek(0, 1, 1), NONE);
     }
 
     private void shareFalls() {
