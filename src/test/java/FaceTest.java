@@ -68,7 +68,7 @@ public final class FaceTest {
         return Modifier.isStatic(modifiers) && !Modifier.isPublic(modifiers) && !Modifier.isProtected(modifiers);
     }
 
-    /** LANGUAGE.md, rule 1: no private method bears the name of a public one; rule 5: static fields are final. */
+    /** LANGUAGE.md, rule 1: no private method bears the name of a public one; rule 5: static fields are final; rule 11. */
     private static void checkNames(Checks checks, Class<?> type) {
         for (Method method : type.getDeclaredMethods()) {
             boolean ofFace = type == VillageCinema.class && Modifier.isPublic(method.getModifiers());
@@ -79,9 +79,12 @@ public final class FaceTest {
             checks.isTrue(method + " has a name of its own", ofFace || !named);
             checks.isTrue(method + " has at most seven parameters", method.getParameterCount() <= 7);
         }
+        int ofObjects = 0;
         for (Field field : type.getDeclaredFields()) {
             int modifiers = field.getModifiers();
             checks.isTrue(field + " is no static state", !Modifier.isStatic(modifiers) || Modifier.isFinal(modifiers));
+            ofObjects += Modifier.isStatic(modifiers) ? 0 : 1;
         }
+        checks.isTrue(type.getName() + " has some twenty fields at most", ofObjects <= 20);
     }
 }

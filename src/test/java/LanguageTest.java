@@ -1,6 +1,7 @@
 import java.io.IOException;
 import java.nio.file.Files;
 import java.nio.file.Path;
+import java.util.Set;
 import java.util.regex.Matcher;
 import java.util.regex.Pattern;
 
@@ -10,7 +11,12 @@ public final class LanguageTest {
         "\\b(throw|throws|try|catch|finally|synchronized|assert|import|package|instanceof|protected|native)\\b",
         "->", "::", "\\b(hashCode|toString|equals|getClass)\\b", "\\bnew\\s+\\w+\\s*\\([^)]*\\)\\s*\\{",
         "\\b(double|float|Object|Thread|Random)\\b", "\\bstatic\\s*\\{", "[^\\x00-\\x7f]", "\\bwhile\\s*\\(true\\)",
-        "\\bfor\\s*\\(\\s*;\\s*;"};
+        "\\bfor\\s*\\(\\s*;\\s*;", "Exact\\b", "\"",
+        // Rows are made with the object and used again: 'new' stands at fields alone.
+        "(?m)^(?! +private final ).*\\bnew\\b"};
+    private static final Pattern LIBRARY = Pattern.compile("\\b(?:java\\w*|System|Math|Integer|Long|Short|Byte|Character"
+        + "|Boolean|Arrays|String|StringBuilder|List|ArrayList|Iterable|Iterator|Comparable)\\b(?:\\.\\w+)*");
+    private static final Set<String> USED = Set.of("System.arraycopy", "Math.min", "Math.max");
     private static final int MOST_LINES = 60, MOST_CLASSES = 12;
 
     private LanguageTest() {
@@ -23,6 +29,10 @@ public final class LanguageTest {
         for (String forbidden : FORBIDDEN) {
             Matcher matcher = Pattern.compile(forbidden).matcher(code);
             checks.isTrue("no " + forbidden, !matcher.find());
+        }
+        Matcher library = LIBRARY.matcher(code);
+        while (library.find()) {
+            checks.isTrue("of the library " + library.group(), USED.contains(library.group()));
         }
         checks.isTrue("few classes", code.split("\\b(class|enum|record|interface) ").length - 1 <= MOST_CLASSES);
         checks.isTrue("short methods", longestMethod(code) <= MOST_LINES);
